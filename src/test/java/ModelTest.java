@@ -70,6 +70,8 @@ public final class ModelTest {
                 tellSomething();
             } else if (what < 13) {
                 tellLaw();
+            } else if (what < 14) {
+                call(named("twice"), random.nextInt(6), random.nextInt(6));
             } else {
                 Method m = methods.get(random.nextInt(methods.size()));
                 call(m, arguments(m));

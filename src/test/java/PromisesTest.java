@@ -112,11 +112,11 @@ public final class PromisesTest {
         String[] texts = {"s", "sx@1", "s1234@1", "s12", "s1s1@1", "t", "t@1", "t1234@1", "t1s1@1",
             "c", "c8@1", "c9@1", "c12@1", "c1t1@1", "bb@1", "hb@1", "pb@1", "bhuwnmop", "bhuwnmops@1",
             "bs1@1", "x@1", "S1@1", "@", "@x", "@123", "@1??", "@1?1", "@1x", "@1b", "?", "@?", "1@1",
-            "@1@1", "s1 @1", "bhuwnmopb@1", "\0@1", "\u00e2@1", "s1t2c3b@45?6", "s-1@1"};
+            "@1@1", "s1 @1", "bhuwnmopb@1", "\0@1", "\u00e2@1", "s1t2c3b@45?6", "s-1@1", "cb@1", "c@1"};
         int[] places = {1, 1, 4, 3, 2, 1, 1, 4, 2,
             1, 1, 1, 2, 2, 1, 1, 1, 8, 8,
             1, 0, 0, 1, 1, 3, 3, 3, 2, 2, 0, 1, 0,
-            2, 2, 8, 0, 0, 11, 1};
+            2, 2, 8, 0, 0, 11, 1, 1, 1};
         LightInRoom x = new LightInRoom();
         for (int i = 0; i < texts.length; i++) {
             due("3 the fault of " + texts[i], Texts.tell(x, texts[i]), -20 - places[i]);
@@ -328,6 +328,9 @@ public final class PromisesTest {
         x.law(3, 5, 0);
         x.law(3, 6, 2);
         due("14 fewer beat lower ones", x.cover(), 2 + 8);
+        LightInRoom all = Texts.room("b@1", "h@1", "u@1", "w@1", "n@1", "@1");
+        lawsByMarks(all);
+        due("14 all are wanted", all.cover(), 63);
     }
 
     private static void promise15Half() {
@@ -363,6 +366,12 @@ public final class PromisesTest {
         due("15 size alone lets one more in", x.half(2), 1);
         x.law(2, 6, 1);
         due("15 0 and 3, 0 and 6, 3 and 4 would do: the least", x.half(2), 1 + 8);
+        int[] hardest = {999, 0, 999, 0, 0, 128, 7};
+        for (int what = 0; what < 7; what++) {
+            x.law(3, what, hardest[what]);
+        }
+        Texts.tell(x, "s40t40c4b@1");
+        due("15 all must go", x.half(3), 127);
         due("15 nobody", x.half(6), -1);
         due("15 nobody", x.half(-1), -1);
         due("15 counted", x.count(11), 2);
