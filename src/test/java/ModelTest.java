@@ -1,9 +1,4 @@
 import java.lang.reflect.Method;
-import java.util.ArrayList;
-import java.util.Arrays;
-import java.util.Comparator;
-import java.util.List;
-import java.util.Map;
 import java.util.Random;
 
 /** Runs of up to 512 calls whose every answer must be that of PlainModel. */
@@ -13,49 +8,24 @@ public final class ModelTest {
     private static final int[] ODD = {Integer.MIN_VALUE, Integer.MIN_VALUE + 1, -1000, -9, -2, -1, 0,
         1, 2, 5, 6, 7, 8, 9, 10, 11, 17, 24, 29, 30, 31, 32, 50, 51, 64, 99, 100, 255, 256, 998, 999,
         1000, 1 << 16, Integer.MAX_VALUE - 1, Integer.MAX_VALUE};
-    /** The greatest good value of each int argument. */
-    private static final Map<String, int[]> MOST = Map.ofEntries(
-            Map.entry("feed", new int[] {8}), Map.entry("tellingOf", new int[] {29, 5}),
-            Map.entry("kind", new int[] {29}), Map.entry("weight", new int[] {29}),
-            Map.entry("law", new int[] {5, 6, 255}), Map.entry("growth", new int[] {1, 50}),
-            Map.entry("put", new int[] {29, 1}), Map.entry("fits", new int[] {29, 5}),
-            Map.entry("share", new int[] {5, 1}), Map.entry("only", new int[] {5}),
-            Map.entry("half", new int[] {5}), Map.entry("sorts", new int[] {1}),
-            Map.entry("alike", new int[] {29}), Map.entry("together", new int[] {7, 7}),
-            Map.entry("twice", new int[] {29, 29}), Map.entry("grows", new int[] {1, 1}),
-            Map.entry("people", new int[] {9, 9}), Map.entry("strokes", new int[] {99}),
-            Map.entry("reach", new int[] {5, 10}), Map.entry("should", new int[] {5}),
-            Map.entry("seen", new int[] {5}), Map.entry("beyond", new int[] {5, 999}),
-            Map.entry("pictures", new int[] {5}), Map.entry("bench", new int[] {40, 40, 7, 255}),
-            Map.entry("lines", new int[] {29}), Map.entry("misses", new int[] {29}),
-            Map.entry("barred", new int[] {255}), Map.entry("glasses", new int[] {5, 5}),
-            Map.entry("count", new int[] {17}));
-
     private final Random random;
-    private final LightInRoom real = new LightInRoom();
-    private final PlainModel model = new PlainModel();
-    private final List<Method> methods;
+    private final Both both;
     private final Check check;
-    private final StringBuilder told = new StringBuilder();
-    private int left = CALLS;
 
-    private ModelTest(int seed, List<Method> methods, Check check) {
+    private ModelTest(int seed, Check check) {
         random = new Random(seed);
-        this.methods = methods;
+        both = new Both(check);
         this.check = check;
     }
 
     public static void main(String[] args) throws Exception {
-        List<Method> methods = new ArrayList<>(Arrays.asList(PlainModel.class.getDeclaredMethods()));
-        methods.removeIf(m -> !java.lang.reflect.Modifier.isPublic(m.getModifiers()));
-        methods.sort(Comparator.comparing(Method::toString));
         Check check = new Check();
-        check.due("how many calls the model has", methods.size(), 36 - 1);
+        check.due("how many calls the model has", Both.METHODS.size(), 36 - 1);
         for (int seed = 0; seed < RUNS && check.wrong() == 0; seed++) {
-            ModelTest run = new ModelTest(seed, methods, check);
+            ModelTest run = new ModelTest(seed, check);
             run.go(seed % 4);
             if (check.wrong() != 0) {
-                System.out.println("run " + seed + ":\n" + run.told);
+                System.out.println("run " + seed + ":\n" + run.both.told());
             }
         }
         check.end();
@@ -64,36 +34,29 @@ public final class ModelTest {
     /** In some runs TELLINGS come thick, so that all 30 and what lies beyond are met. */
     private void go(int thick) throws Exception {
         int before = check.wrong();
-        while (left > 0 && check.wrong() == before) {
+        while (both.calls() < CALLS && check.wrong() == before) {
             int what = random.nextInt(20);
             if (what < 1 + 3 * thick) {
                 tellSomething();
             } else if (what < 13) {
                 tellLaw();
             } else if (what < 14) {
-                call(named("twice"), random.nextInt(6), random.nextInt(6));
+                call("twice", random.nextInt(6), random.nextInt(6));
             } else {
-                Method m = methods.get(random.nextInt(methods.size()));
+                Method m = Both.METHODS.get(random.nextInt(Both.METHODS.size()));
                 call(m, arguments(m));
             }
         }
     }
 
     private void call(Method m, Object... arguments) throws Exception {
-        if (left == 0) {
-            return;
+        if (both.calls() < CALLS) {
+            both.call(m, arguments);
         }
-        left--;
-        String text = m.getName() + Arrays.toString(arguments);
-        Method same = LightInRoom.class.getMethod(m.getName(), m.getParameterTypes());
-        int got = (Integer) same.invoke(real, arguments);
-        int want = (Integer) m.invoke(model, arguments);
-        told.append(text).append(" = ").append(got).append('\n');
-        check.due(text, got, want);
     }
 
-    private Method named(String name) {
-        return methods.stream().filter(m -> m.getName().equals(name)).findFirst().orElseThrow();
+    private void call(String name, Object... arguments) throws Exception {
+        call(Both.named(name), arguments);
     }
 
     private void tellSomething() throws Exception {
@@ -102,10 +65,10 @@ public final class ModelTest {
             int n = Math.min(1 + random.nextInt(8), text.length() - at);
             // What lies above the n bytes must not matter.
             long above = n == 8 ? 0 : random.nextLong() << (8 * n);
-            call(named("feed"), n, Texts.bytes(text, at, n) | above);
+            call("feed", n, Texts.bytes(text, at, n) | above);
             at += n;
         }
-        call(named("telling"));
+        call("telling");
     }
 
     private String text() {
@@ -158,7 +121,7 @@ public final class ModelTest {
         int some = random.nextInt(random.nextBoolean() ? 30 : 1000);
         int[] values = {some / 4, some + 20, some / 4, some + 20, random.nextInt(256) | 1 << some % 8,
             1 << random.nextInt(8), random.nextInt(256) & random.nextInt(256)};
-        call(named("law"), random.nextInt(6), what,
+        call("law", random.nextInt(6), what,
                 random.nextInt(8) == 0 ? new int[] {0, 999, 0, 999, 255, 0, 0}[what] : values[what]);
     }
 
@@ -171,7 +134,7 @@ public final class ModelTest {
             } else if (types[i] == long.class) {
                 arguments[i] = random.nextLong();
             } else {
-                arguments[i] = number(MOST.get(m.getName())[i]);
+                arguments[i] = number(Both.most(m, i));
             }
         }
         return arguments;
