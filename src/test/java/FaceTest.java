@@ -22,7 +22,10 @@ public final class FaceTest {
         methods();
         members();
         classesInside();
-        words();
+        String code = code();
+        words(code);
+        library(code);
+        lengths(code);
         CHECK.end();
     }
 
@@ -96,14 +99,20 @@ public final class FaceTest {
         CHECK.holds(one + " has at most twenty fields", own <= 20);
     }
 
-    private static void words() throws IOException {
+    /** The source without comments, texts and signs, line for line. */
+    private static String code() throws IOException {
         String text = Files.readString(SOURCE);
         CHECK.holds("signs 1 to 127", text.chars().allMatch(c -> c >= 1 && c <= 127));
-        String code = text.replaceAll("(?s)/\\*.*?\\*/", " ").replaceAll("//[^\n]*", " ")
-                .replaceAll("\"[^\"\n]*\"", "\"\"").replaceAll("'.'", "' '");
+        return Pattern.compile("(?s)/\\*.*?\\*/").matcher(text)
+                .replaceAll(comment -> comment.group().replaceAll("[^\n]", ""))
+                .replaceAll("//[^\n]*", "").replaceAll("\"[^\"\n]*\"", "\"\"")
+                .replaceAll("'.'", "' '");
+    }
+
+    private static void words(String code) {
         String[] words = {"throw", "throws", "try", "catch", "finally", "synchronized", "assert",
             "import", "package", "Object", "System.out", "System.err", "Random", "Thread", "hashCode",
-            "toString"};
+            "toString", "getClass", "java"};
         for (String word : words) {
             CHECK.holds("the code is without " + word,
                     !Pattern.compile("\\b" + Pattern.quote(word) + "\\b").matcher(code).find());
@@ -111,5 +120,34 @@ public final class FaceTest {
         for (String sign : new String[] {"->", "::", "@"}) {
             CHECK.holds("the code is without " + sign, !code.contains(sign));
         }
+    }
+
+    /** Of the library only what the class needs now; LANGUAGE.md lists what else it may take. */
+    private static void library(String code) {
+        Set<String> known = Set.of("Integer.bitCount", "Math.max", "Math.min", "System.arraycopy");
+        Matcher use = Pattern.compile("\\b(?:Integer|Long|Short|Byte|Character|Boolean|Double|Float"
+                + "|Math|StrictMath|System|Arrays|List|ArrayList|String|StringBuilder)\\.\\w+")
+                .matcher(code);
+        while (use.find()) {
+            CHECK.holds(use.group() + " is in LANGUAGE.md's list", known.contains(use.group()));
+        }
+    }
+
+    private static void lengths(String code) {
+        String[] lines = code.split("\n");
+        int methods = 0;
+        for (int from = 0; from < lines.length; from++) {
+            Matcher start = Pattern.compile("( {4}| {8})(?! |if |for |while |switch )[\\w \\[\\]]+\\(.*\\) \\{")
+                    .matcher(lines[from]);
+            if (start.matches()) {
+                methods++;
+                int to = from;
+                while (to < lines.length && !lines[to].equals(start.group(1) + "}")) {
+                    to++;
+                }
+                CHECK.holds(lines[from].strip() + " has at most sixty lines", to - from < 60);
+            }
+        }
+        CHECK.holds("methods were found: " + methods, methods > 35);
     }
 }
