@@ -16,6 +16,8 @@ import java.util.stream.Collectors;
 public final class FaceTest {
     private static final Path SOURCE = Path.of("src/main/java/LightInRoom.java");
     private static final Path DOCUMENT = Path.of("../shared/DOC.md");
+    private static final Pattern METHOD = Pattern.compile(
+            "( {4}| {8})(?! |if |for |while |switch )[\\w \\[\\]]+\\(.*\\) \\{");
     private static final Check CHECK = new Check();
 
     public static void main(String[] args) throws IOException {
@@ -137,8 +139,7 @@ public final class FaceTest {
         String[] lines = code.split("\n");
         int methods = 0;
         for (int from = 0; from < lines.length; from++) {
-            Matcher start = Pattern.compile("( {4}| {8})(?! |if |for |while |switch )[\\w \\[\\]]+\\(.*\\) \\{")
-                    .matcher(lines[from]);
+            Matcher start = METHOD.matcher(lines[from]);
             if (start.matches()) {
                 methods++;
                 int to = from;
